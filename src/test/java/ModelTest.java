@@ -1,0 +1,272 @@
+import java.util.Random;
+import java.util.function.IntSupplier;
+
+/** Runs of calls by chance, always the same ones, on the program and on the model side by side. */
+public final class ModelTest {
+    private static final int RUNS = Integer.getInteger("runs", 400);
+    private static final int[] WISHES = {
+        0, 1, 15, 16, 31, 32, 120, 128, 248, 255, 256, 263, 264, 265, 272, 504, 512, 520, 528, 1016,
+        1024, 2040, 2047, 2048, 2056, 2112, 4000, 4079, 4080, 4094, 4095
+    };
+    private static final String[] NAMES = {
+        "", "a", "b", "ab", "aa", "abc", "abcdefgh", "zzzzzzzz", "abcdefgi", "lake", "lane", "z"
+    };
+
+    private final int seed;
+    private final Random random;
+    private final AtlasDesk desk = new AtlasDesk();
+    private final Model model = new Model();
+    private int closed = 0;
+    private int reach;
+    private static final java.util.TreeMap<String, Integer> seen = new java.util.TreeMap<>();
+
+    private ModelTest(int seed) {
+        this.seed = seed;
+        this.random = new Random(seed);
+        this.reach = new int[] {4, 40, 700, 4096}[seed % 4];
+    }
+
+    public static void main(String[] args) {
+        for (int seed = 0; seed < RUNS; seed++) {
+            new ModelTest(seed).run();
+        }
+        if (Boolean.getBoolean("seen")) {
+            System.out.println(seen);
+        }
+        System.out.println(RUNS + " runs answered as the model");
+    }
+
+    private void run() {
+        for (int call = 0; call < 300; call++) {
+            step();
+        }
+    }
+
+    private void same(String call, IntSupplier got, IntSupplier due) {
+        String a = answer(got);
+        String b = answer(due);
+        String name = call.substring(0, call.indexOf('('));
+        String kind = b.startsWith("throws") ? b : b.equals("-1") ? "NONE" : b.equals("0") ? "0" : "n";
+        seen.merge(name + " " + kind, 1, Integer::sum);
+        if (!a.equals(b)) {
+            System.out.println("run " + seed + ": " + call + " answered " + a + ", due is " + b);
+            System.exit(1);
+        }
+    }
+
+    private static String answer(IntSupplier call) {
+        try {
+            return Integer.toString(call.getAsInt());
+        } catch (RuntimeException e) {
+            return "throws." + e.getClass().getSimpleName();
+        }
+    }
+
+    private int pick(int below) {
+        return random.nextInt(below);
+    }
+
+    private int coordinate() {
+        if (pick(200) == 0) {
+            return pick(2) == 0 ? -1 : 4096;
+        }
+        if (reach == 4096 && pick(2) == 0) {
+            return WISHES[pick(WISHES.length)];
+        }
+        int near = reach == 4 ? 254 : reach == 40 ? 240 : 0;
+        return Math.min(4095, near + pick(reach));
+    }
+
+    private void step() {
+        int chance = pick(100);
+        if (chance < 30) {
+            feature();
+        } else if (chance < 34) {
+            int number = number();
+            same("drop(" + number + ")", () -> desk.drop(number) ? 1 : 0, () -> model.drop(number) ? 1 : 0);
+        } else if (chance < 39) {
+            same("edition()", desk::edition, model::edition);
+            closed++;
+        } else if (chance < 59) {
+            tile();
+        } else if (chance < 65) {
+            region();
+        } else if (chance < 73) {
+            int edition = edition();
+            same("extract(" + edition + ")", () -> desk.extract(edition), () -> model.extract(edition));
+            pack();
+        } else if (chance < 79) {
+            int from = edition();
+            int to = edition();
+            same("difference(" + from + ", " + to + ")",
+                    () -> desk.difference(from, to), () -> model.difference(from, to));
+            difference();
+        } else if (chance < 84) {
+            same("apply()", desk::apply, model::apply);
+            pack();
+        } else if (chance < 92) {
+            names();
+        } else {
+            near();
+        }
+    }
+
+    private int number() {
+        return pick(60) == 0 ? pick(3) * 5000 : pick(8) == 0 ? 9990 + pick(12) : 1 + pick(30);
+    }
+
+    private int edition() {
+        return pick(3) == 0 ? 0 : pick(20) == 0 ? pick(5) - 2 + closed : Math.max(closed - pick(2), 0);
+    }
+
+    private void corner(int x, int y) {
+        same("corner(" + x + ", " + y + ")", () -> desk.corner(x, y) ? 1 : 0, () -> model.corner(x, y) ? 1 : 0);
+    }
+
+    private void feature() {
+        int kind = pick(40) == 0 ? pick(5) - 1 : pick(3);
+        if (kind == 2 && pick(3) > 0) {
+            ring();
+        } else {
+            int corners = kind == 0 ? 1 : 1 + kind + pick(pick(2) == 0 ? 3 : 11);
+            for (int i = 0; i < corners + (pick(60) == 0 ? 1 : 0); i++) {
+                corner(coordinate(), coordinate());
+            }
+        }
+        int number = number();
+        int sort = pick(60) == 0 ? pick(2) * 11 - 1 : pick(4) == 0 ? pick(10) : pick(2);
+        int least = pick(60) == 0 ? pick(2) * 6 - 1 : pick(2) * pick(5);
+        long word = word();
+        same("feature(" + number + ", " + kind + ", " + sort + ", " + least + ", " + word + ")",
+                () -> desk.feature(number, kind, sort, least, word),
+                () -> model.feature(number, kind, sort, least, word));
+    }
+
+    /** A comb, or corners round a middle by their angle: rings that are mostly sound. */
+    private void ring() {
+        int x = coordinate();
+        int y = coordinate();
+        int size = 3 + pick(reach);
+        if (pick(3) == 0) {
+            boolean flip = pick(2) == 0;
+            for (int i = 0; i < 10; i++) {
+                int across = i % 2 == 0 ? x : x + size / 2 + pick(size);
+                int along = y + i * size / 10;
+                corner(flip ? along : across, flip ? across : along);
+            }
+            int back = x - 1 - pick(size);
+            corner(flip ? y + size : back, flip ? back : y + size);
+            corner(flip ? y : back, flip ? back : y);
+            return;
+        }
+        int corners = 3 + pick(10);
+        double[] angles = random.doubles(corners, 0, 2 * Math.PI).sorted().toArray();
+        for (double angle : angles) {
+            double far = size * (0.3 + random.nextDouble());
+            corner((int) Math.floor(x + far * Math.cos(angle)), (int) Math.floor(y + far * Math.sin(angle)));
+        }
+    }
+
+    private long word() {
+        if (pick(50) == 0) {
+            return new long[] {-1L, 0x6100L, 0x41L, 0x7bL, 0x60L, 0x610062L, 0x8061626364656667L}[pick(7)];
+        }
+        long word = 0;
+        for (char letter : NAMES[pick(NAMES.length)].toCharArray()) {
+            word = word << 8 | letter;
+        }
+        return word;
+    }
+
+    private void tile() {
+        int edition = edition();
+        int z = pick(40) == 0 ? pick(2) * 6 - 1 : pick(5);
+        int side = 1 << Math.max(0, Math.min(z, 4));
+        int tx = pick(40) == 0 ? pick(2) * (side + 1) - 1 : pick(3) == 0 ? pick(side) : pick(Math.min(side, 2));
+        int ty = pick(40) == 0 ? pick(2) * (side + 1) - 1 : pick(3) == 0 ? pick(side) : pick(Math.min(side, 2));
+        same("tile(" + edition + ", " + z + ", " + tx + ", " + ty + ")",
+                () -> desk.tile(edition, z, tx, ty), () -> model.tile(edition, z, tx, ty));
+        octets();
+    }
+
+    private void octets() {
+        int i = -2;
+        int last;
+        do {
+            int at = i++;
+            same("octet(" + at + ")", () -> desk.octet(at), () -> model.octet(at));
+            last = model.octet(at);
+        } while (last != -1 || i < 2);
+    }
+
+    private void region() {
+        int[] v = {coordinate(), coordinate(), coordinate(), coordinate()};
+        if (pick(20) > 0) {
+            v = new int[] {Math.min(v[0], v[2]), Math.min(v[1], v[3]), Math.max(v[0], v[2]), Math.max(v[1], v[3])};
+        }
+        int[] w = v;
+        int zoom = pick(40) == 0 ? pick(2) * 6 - 1 : pick(5);
+        same("region(" + java.util.Arrays.toString(w) + ", " + zoom + ")", () -> {
+            desk.region(w[0], w[1], w[2], w[3], zoom);
+            return 0;
+        }, () -> {
+            model.region(w[0], w[1], w[2], w[3], zoom);
+            return 0;
+        });
+    }
+
+    private void pack() {
+        for (int what = -1; what < 6; what++) {
+            int w = what;
+            same("pack(" + w + ")", () -> desk.pack(w), () -> model.pack(w));
+        }
+        int tiles = Math.max(0, model.pack(0));
+        for (int k = -1; k <= tiles; k++) {
+            for (int what = -1; what < 6; what++) {
+                int at = k;
+                int w = what;
+                same("packed(" + at + ", " + w + ")", () -> desk.packed(at, w), () -> model.packed(at, w));
+            }
+        }
+        int k = pick(tiles + 1);
+        take(model.packed(k, 0), model.packed(k, 1), model.packed(k, 2));
+        take(pick(6), pick(16), pick(16));
+    }
+
+    private void take(int z, int tx, int ty) {
+        same("take(" + z + ", " + tx + ", " + ty + ")", () -> desk.take(z, tx, ty), () -> model.take(z, tx, ty));
+        octets();
+    }
+
+    private void difference() {
+        int k = -2;
+        do {
+            k++;
+            for (int what = -1; what < 6; what++) {
+                int at = k;
+                int w = what;
+                same("differs(" + at + ", " + w + ")", () -> desk.differs(at, w), () -> model.differs(at, w));
+            }
+        } while (k < 0 || model.differs(k, 0) != -1);
+    }
+
+    private void names() {
+        long word = word();
+        for (int k = -1; k < 26; k++) {
+            int at = k;
+            same("lookUp(" + word + ", " + at + ")", () -> desk.lookUp(word, at), () -> model.lookUp(word, at));
+        }
+    }
+
+    private void near() {
+        boolean far = pick(5) == 0;
+        int x = far ? (pick(2) == 0 ? Integer.MIN_VALUE : Integer.MAX_VALUE) : coordinate();
+        int y = far ? (pick(2) == 0 ? Integer.MIN_VALUE : Integer.MAX_VALUE) : coordinate();
+        int sort = pick(2) == 0 ? pick(2) : pick(12) - 1;
+        for (int k = -1; k < 26; k++) {
+            int at = k;
+            same("near(" + x + ", " + y + ", " + sort + ", " + at + ")",
+                    () -> desk.near(x, y, sort, at), () -> model.near(x, y, sort, at));
+        }
+    }
+}
