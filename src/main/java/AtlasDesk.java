@@ -1,4 +1,3 @@
-import java.util.Arrays;
 import java.util.NoSuchElementException;
 
 /**
@@ -48,7 +47,7 @@ public final class AtlasDesk {
     private int closed;
     private final Packer packer = new Packer();
     private final Octets tileInHand = new Octets();
-    private final Region force = new Region();
+    private final Region regionInForce = new Region();
     private boolean regionSet;
     // What is made anew is made in the spare one, so that a refusal leaves the old one as it was.
     private Pack packInHand = new Pack();
@@ -112,7 +111,7 @@ public final class AtlasDesk {
         if (!ordered || !isOfWorld(x0, y0) || !isOfWorld(x1, y1) || !isZoom(zoom)) {
             throw new IllegalArgumentException("not a region");
         }
-        force.set(x0, y0, x1, y1, zoom);
+        regionInForce.set(x0, y0, x1, y1, zoom);
         regionSet = true;
         differenceSet = false;
     }
@@ -122,7 +121,7 @@ public final class AtlasDesk {
         if (found == null) {
             throw new IndexOutOfBoundsException("no such edition");
         }
-        if (!regionSet || !packer.fill(sparePack, found, edition, force)) {
+        if (!regionSet || !packer.fill(sparePack, found, edition, regionInForce)) {
             throw new IllegalStateException("no region, or the pack is refused");
         }
         Pack old = packInHand;
@@ -188,8 +187,8 @@ public final class AtlasDesk {
             throw new IndexOutOfBoundsException("no such edition");
         }
         if (!regionSet
-                || !packer.fill(spareDifference.first, first, from, force)
-                || !packer.fill(spareDifference.second, second, to, force)) {
+                || !packer.fill(spareDifference.first, first, from, regionInForce)
+                || !packer.fill(spareDifference.second, second, to, regionInForce)) {
             throw new IllegalStateException("no region, or a pack is refused");
         }
         spareDifference.compare();
@@ -368,14 +367,14 @@ public final class AtlasDesk {
             int turnB = turnOf(c, d, b);
             boolean across = areOpposite(turnC, turnD) && areOpposite(turnA, turnB);
             return across
-                    || turnC == 0 && isBetween(a, b, c)
-                    || turnD == 0 && isBetween(a, b, d)
-                    || turnA == 0 && isBetween(c, d, a)
-                    || turnB == 0 && isBetween(c, d, b);
+                    || (turnC == 0 && isBetween(a, b, c))
+                    || (turnD == 0 && isBetween(a, b, d))
+                    || (turnA == 0 && isBetween(c, d, a))
+                    || (turnB == 0 && isBetween(c, d, b));
         }
 
         private static boolean areOpposite(int s, int t) {
-            return s < 0 && t > 0 || s > 0 && t < 0;
+            return (s < 0 && t > 0) || (s > 0 && t < 0);
         }
 
         private boolean isBetween(int a, int b, int p) {
@@ -400,9 +399,9 @@ public final class AtlasDesk {
             boolean within = false;
             for (int i = 0; i < count; i++) {
                 int j = next(i);
-                boolean passes = ys[i] > y != ys[j] > y;
-                int side = turn(xs[i], ys[i], xs[j], ys[j], x, y);
-                if (passes && ys[j] > ys[i] == side > 0) {
+                boolean passes = (ys[i] > y) != (ys[j] > y);
+                boolean left = turn(xs[i], ys[i], xs[j], ys[j], x, y) > 0;
+                if (passes && left == (ys[j] > ys[i])) {
                     within = !within;
                 }
             }
@@ -412,7 +411,7 @@ public final class AtlasDesk {
         private static boolean isName(long word) {
             boolean begun = false;
             for (int i = MOST_LETTERS - 1; i >= 0; i--) {
-                int letter = (int) (word >>> 8 * i) & 255;
+                int letter = (int) (word >>> (8 * i)) & 255;
                 boolean isLetter = letter >= 'a' && letter <= 'z';
                 if (!isLetter && (begun || letter != 0)) {
                     return false;
@@ -424,7 +423,7 @@ public final class AtlasDesk {
 
         private static int letters(long word) {
             for (int n = MOST_LETTERS; n > 0; n--) {
-                if (word >>> 8 * (n - 1) != 0) {
+                if ((word >>> (8 * (n - 1))) != 0) {
                     return n;
                 }
             }
@@ -435,24 +434,24 @@ public final class AtlasDesk {
             int wanted = letters(start);
             int own = letters(word);
             // Without letters the shift could be one of 64 bits, which Java takes for none.
-            return wanted == 0 || own >= wanted && word >>> 8 * (own - wanted) == start;
+            return wanted == 0 || (own >= wanted && word >>> (8 * (own - wanted)) == start);
         }
 
         /** The name with its first letter in the highest byte: these compare as words in a book. */
         private long nameInBook() {
-            return word << 8 * (MOST_LETTERS - letters(word));
+            return word << (8 * (MOST_LETTERS - letters(word)));
         }
 
         boolean isNamedAhead(Feature other) {
             long own = nameInBook();
             long others = other.nameInBook();
-            return own < others || own == others && number < other.number;
+            return own < others || (own == others && number < other.number);
         }
 
         boolean isNearer(Feature other, int x, int y) {
             long own = farness(x, y);
             long others = other.farness(x, y);
-            return own < others || own == others && number < other.number;
+            return own < others || (own == others && number < other.number);
         }
 
         /** The squared distance less x * x + y * y: so it does not overflow for any x, y. */
@@ -703,7 +702,7 @@ public final class AtlasDesk {
             boolean before = false;
             for (int i = 0; i < other.count; i++) {
                 boolean inside = side.holds(other.xs[i], other.ys[i]);
-                if (!other.begins[i] && inside != before) {
+                if (i > 0 && !other.begins[i] && inside != before) {
                     putOnBorder(other, i - 1, i, side, ring ? count == 0 : inside);
                 }
                 if (inside) {
@@ -770,7 +769,7 @@ public final class AtlasDesk {
         void addCount(int count) {
             int rest = count;
             for (int more = 0; more < 4 && rest > 127; more++) {
-                add(rest & 127 | 128);
+                add((rest & 127) + 128);
                 rest >>>= 7;
             }
             add(rest);
@@ -837,9 +836,9 @@ public final class AtlasDesk {
 
         private void markStaying(Path shape) {
             int last = shape.count - 1;
-            Arrays.fill(stays, false);
-            stays[0] = true;
-            stays[last] = true;
+            for (int i = 0; i <= last; i++) {
+                stays[i] = i == 0 || i == last;
+            }
             int from = 0;
             // A round marks a corner more, or goes on to the next one that is marked.
             for (int round = 0; round < 2 * shape.count && from < last; round++) {
@@ -959,7 +958,8 @@ public final class AtlasDesk {
 
         boolean hasTile(int z, int tx, int ty) {
             int shift = WORLD_BITS - z;
-            return tx >= x0 >> shift && tx <= x1 >> shift && ty >= y0 >> shift && ty <= y1 >> shift;
+            return tx >= (x0 >> shift) && tx <= (x1 >> shift)
+                    && ty >= (y0 >> shift) && ty <= (y1 >> shift);
         }
 
         boolean meets(Feature feature) {
@@ -1126,7 +1126,7 @@ public final class AtlasDesk {
             int place = 0;
             for (int z = 0; z <= region.zoom; z++) {
                 maker.prepare(edition, z);
-                for (int code = 0; code < 1 << 2 * z && fits; code++) {
+                for (int code = 0; code < (1 << (2 * z)) && fits; code++) {
                     int tx = everySecondBit(code);
                     int ty = everySecondBit(code >> 1);
                     if (region.hasTile(z, tx, ty)) {
@@ -1143,7 +1143,7 @@ public final class AtlasDesk {
         private static int everySecondBit(int code) {
             int number = 0;
             for (int bit = 0; bit < LAST_ZOOM; bit++) {
-                number |= (code >> 2 * bit & 1) << bit;
+                number |= ((code >> (2 * bit)) & 1) << bit;
             }
             return number;
         }
