@@ -263,7 +263,7 @@ public final class AtlasDesk {
         return isZoom(z) && tx >= 0 && tx < (1 << z) && ty >= 0 && ty < (1 << z);
     }
 
-    /** Above 0 if p is on the left of the way from a to b, below 0 on the right, 0 if on its line. */
+    /** Above 0 if p is left of the way from a to b, below 0 if right of it, 0 if on its line. */
     private static int turn(int ax, int ay, int bx, int by, int px, int py) {
         return (bx - ax) * (py - ay) - (by - ay) * (px - ax);
     }
@@ -1014,7 +1014,6 @@ public final class AtlasDesk {
         void clear(int ofEdition, Region ofRegion) {
             edition = ofEdition;
             region.copyFrom(ofRegion);
-            features.count = 0;
             tiles = 0;
             stored = 0;
             shared = 0;

@@ -17,7 +17,8 @@ public final class ModelTest {
     private final AtlasDesk desk = new AtlasDesk();
     private final Model model = new Model();
     private int closed = 0;
-    private int reach;
+    private final int reach;
+    private static int most = 0;
     private static final java.util.TreeMap<String, Integer> seen = new java.util.TreeMap<>();
 
     private ModelTest(int seed) {
@@ -31,12 +32,18 @@ public final class ModelTest {
             new ModelTest(seed).run();
         }
         if (Boolean.getBoolean("seen")) {
-            System.out.println(seen);
+            System.out.println(seen + ", bytes of a tile at most " + most);
         }
         System.out.println(RUNS + " runs answered as the model");
     }
 
     private void run() {
+        if (seed % 20 == 9) {
+            crowd(2);
+        }
+        if (seed % 20 == 19) {
+            crowd(1);
+        }
         for (int call = 0; call < 300; call++) {
             step();
         }
@@ -109,6 +116,27 @@ public final class ModelTest {
         } else {
             near();
         }
+    }
+
+    /** Stars with tips outside of a tile, or lines to and fro through it: tiles of many bytes. */
+    private void crowd(int kind) {
+        for (int n = 1; n <= 24; n++) {
+            for (int i = 0; i < 12; i++) {
+                if (kind == 2) {
+                    double angle = (i + 0.5 * random.nextDouble()) * Math.PI / 6;
+                    double far = i % 2 == 0 ? 60 + pick(70) : 150 + pick(300);
+                    corner((int) (640 + far * Math.cos(angle)), (int) (640 + far * Math.sin(angle)));
+                } else {
+                    corner((i % 2 == 0 ? 400 : 800) + pick(80), 510 + pick(260));
+                }
+            }
+            int number = n * 300;
+            same("feature(" + number + ")",
+                    () -> desk.feature(number, kind, 9, 0, 0L), () -> model.feature(number, kind, 9, 0, 0L));
+        }
+        same("tile(0, 4, 2, 2)", () -> desk.tile(0, 4, 2, 2), () -> model.tile(0, 4, 2, 2));
+        most = Math.max(most, model.tile(0, 4, 2, 2));
+        octets();
     }
 
     private int number() {

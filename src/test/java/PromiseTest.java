@@ -22,6 +22,7 @@ public final class PromiseTest {
         promise6Steps();
         promise6Simpler();
         promise6Cut();
+        promise6CutOrder();
         promise6CutAreas();
         promise6Written();
         promise6Wrong();
@@ -33,12 +34,15 @@ public final class PromiseTest {
         promise9Bytes();
         promise9Shared();
         promise10();
+        promise10First();
         promise11();
         promise12();
         promise13();
         promise13Refused();
         promise14();
+        promise14Most();
         promise15();
+        promise15Shared();
         promise15Refused();
         promise16();
         promise17();
@@ -220,7 +224,20 @@ public final class PromiseTest {
         dueFeature(false, 2, 0, 0, 9, 0, 9, 9, 9, 4);
         dueFeature(false, 2, 0, 0, 9, 0, 9, 9, 5, 0);
         dueFeature(true, 2, 5, 0, 9, 0, 9, 9, 0, 0);
-        // A corner on an edge that is no neighbour; a corner that two rings would share.
+        dueFeature(false, 2, 2000, 2000, 2003, 2003, 2001, 2001, 2000, 2009);
+        dueFeature(false, 2, 2003, 2000, 2000, 2003, 2002, 2001, 2009, 2009);
+        dueFeature(false, 2, 2000, 2000, 2000, 2002, 2000, 2001, 2009, 2009);
+        dueFeature(false, 2, 2000, 2002, 2000, 2000, 2000, 2001, 2009, 2009);
+        dueFeature(true, 2, 2000, 2000, 2001, 2001, 2003, 2003, 2000, 2009);
+        // A corner on an edge that is no neighbour, upright, aslant, from each side of it.
+        dueFeature(false, 2, 0, 0, 5, 5, 0, 9, 20, 9, 5, 4, 5, 6, 20, 0);
+        dueFeature(false, 2, 0, 0, 10, 10, 0, 20, 30, 20, 10, 10, 30, 0);
+        dueFeature(false, 2, 0, 0, 0, 10, 20, 10, 0, 5, 20, 0);
+        dueFeature(false, 2, 20, 0, 0, 5, 20, 10, 0, 10, 0, 0);
+        dueFeature(false, 2, 0, 0, 20, 40, 12, 40, 10, 20, 0, 40);
+        dueFeature(true, 2, 0, 0, 20, 40, 12, 40, 9, 20, 0, 40);
+        dueFeature(true, 2, 0, 0, 0, 10, 20, 10, 1, 5, 20, 0);
+        // The same, and a corner that two rings would share.
         dueFeature(false, 2, 0, 0, 10, 0, 10, 10, 5, 0, 0, 10);
         dueFeature(false, 2, 0, 0, 10, 0, 5, 5, 10, 10, 0, 10, 5, 5);
         dueFeature(true, 2, 0, 0, 10, 0, 10, 10, 5, 1, 0, 10);
@@ -299,6 +316,10 @@ public final class PromiseTest {
         dueAlone(1, 4, 0, 0, "1 1 1 2 0 0 60 80", 0, 0, 3, 7, 30, 40);
         // From the line through the two, not from the part between them.
         dueAlone(1, 4, 0, 0, "1 1 1 2 20 0 40 0", 10, 0, 50, 1, 30, 0);
+        dueAlone(1, 4, 0, 0, "1 1 1 2 0 0 80 0", 0, 0, 10, 1, 20, 1, 30, 1, 40, 0);
+        dueAlone(1, 4, 0, 0, "1 1 1 3 200 1 200 1 0 4 0 3", 100, 100, 100, 102, 100, 100);
+        dueAlone(1, 4, 0, 0, "", 100, 100, 100, 101, 99, 100, 100, 99, 100, 100);
+        dueAlone(1, 4, 0, 0, "1 1 1 3 200 1 200 1 7 80 8 79", 100, 100, 96, 140, 100, 100);
         // Of two alike the first; then on both sides of it.
         dueAlone(1, 4, 0, 0, "1 1 1 3 0 0 20 6 20 5", 0, 0, 10, 3, 14, 3, 20, 0);
         dueAlone(1, 4, 0, 0, "1 1 1 4 0 0 20 80 20 79 20 80", 0, 0, 10, 40, 20, 0, 30, 40);
@@ -333,6 +354,11 @@ public final class PromiseTest {
         dueAlone(1, 4, 0, 0, "1 1 1 2 20 136 4 2 8", 10, 260, 11, 268);
         dueAlone(1, 4, 0, 0, "1 1 1 2 22 136 4 0 8", 11, 260, 10, 268);
         dueAlone(1, 4, 1, 0, "1 1 1 2 15 20 8 0", 244, 10, 252, 10);
+        // An end that is gone with its piece, before and behind one that stays.
+        dueAlone(1, 4, 0, 0, "1 1 1 3 144 4 20 199 2 0 200 2 0", 300, 60, 264, 90, 300, 120, 300, 10,
+                264, 10, 100, 10, 264, 10, 300, 40);
+        dueAlone(1, 4, 0, 0, "1 1 1 2 200 1 20 200 2 0", 100, 10, 264, 10, 300, 40, 264, 90, 300, 120);
+        dueAlone(1, 4, 0, 0, "1 1 1 2 144 4 20 199 2 0", 300, 120, 264, 90, 300, 40, 264, 10, 100, 10);
         // Through a whole tile; a bend outside; an end outside makes another piece.
         dueAlone(1, 4, 1, 0, "1 1 1 2 15 20 160 4 0", 0, 10, 1000, 10);
         dueAlone(1, 4, 0, 0, "1 1 2 2 200 1 20 200 2 0 2 0 200 1 199 2 0", 100, 10, 364, 10, 364, 110, 100, 110);
@@ -344,8 +370,16 @@ public final class PromiseTest {
         dueAlone(1, 4, 0, 0, "1 1 1 2 144 4 20 199 2 0", 300, 90, 264, 10, 100, 10);
         // Past the tile's corner: inside of each side, but not of all of them.
         dueAlone(1, 4, 0, 0, "", 200, 400, 400, 200);
-        // The first cut's whole number is what the next one starts from.
+        // Where the first cut puts a corner, in whole numbers, the next one starts from.
         dueAlone(1, 4, 1, 1, "1 1 1 2 11 15 14 6", 247, 246, 257, 251);
+    }
+
+    /** The sides one after the other: 480 / 321 is 1 in whole numbers, 480 / 320 would be 2. */
+    private static void promise6CutOrder() {
+        dueAlone(1, 4, 1, 0, "1 1 1 2 15 2 160 4 18", 200, 0, 521, 10);
+        dueAlone(1, 4, 1, 0, "1 1 1 2 144 4 20 159 4 17", 521, 10, 200, 0);
+        dueAlone(1, 4, 0, 1, "1 1 1 2 2 15 18 160 4", 0, 200, 10, 521);
+        dueAlone(1, 4, 0, 1, "1 1 1 2 20 144 4 17 159 4", 10, 521, 0, 200);
     }
 
     private static void promise6CutAreas() {
@@ -502,6 +536,27 @@ public final class PromiseTest {
         dueMeeting(false, 2, 301, 250, 400, 300, 301, 400);
         // Round the region, but open to one side.
         dueMeeting(false, 2, 90, 100, 90, 300, 310, 300, 310, 100, 320, 100, 320, 310, 80, 310, 80, 100);
+        // Corners of the area as high as the region's, on either side of it.
+        dueMeeting(true, 2, 50, 200, 200, 100, 350, 200, 200, 400);
+        dueMeeting(false, 2, 50, 200, 60, 100, 70, 200, 60, 400);
+        dueMeeting(false, 2, 350, 200, 360, 100, 370, 200, 360, 400);
+        dueMeeting(true, 2, 20, 200, 50, 150, 50, 10, 700, 10, 700, 700, 50, 700, 50, 250);
+        dueMeeting(false, 2, 20, 200, 50, 150, 80, 200, 50, 250);
+        // Past each of the region's corners, and through it, to and fro.
+        int[][] corners = {{100, 200, -1, -1}, {300, 200, 1, -1}, {100, 250, -1, 1}, {300, 250, 1, 1}};
+        for (int[] c : corners) {
+            for (int way = -1; way < 2; way += 2) {
+                int x0 = c[0] - 20 * way * c[2];
+                int y0 = c[1] + 30 * way * c[3];
+                int x1 = c[0] + 20 * way * c[2];
+                int y1 = c[1] - 30 * way * c[3];
+                dueMeeting(true, 1, x0, y0, x1, y1);
+                dueMeeting(false, 1, x0 + c[2], y0, x1 + c[2], y1);
+                // Only one end beside the way through the corner.
+                dueMeeting(false, 1, x0, y0, x1 + c[2], y1);
+                dueMeeting(true, 1, x0, y0, x1 - c[2], y1);
+            }
+        }
         // Exactly: an edge past the corner (100, 200) by a hair, and one through it.
         dueMeeting(false, 1, 99, 200, 102, 197);
         dueMeeting(true, 1, 99, 201, 102, 198);
@@ -633,6 +688,21 @@ public final class PromiseTest {
         for (int[] v : wrong) {
             Check.due("packed(" + v[0] + ", " + v[1] + ")", () -> desk.packed(v[0], v[1]), -1);
         }
+    }
+
+    /** The very first tile is like the next two. */
+    private static void promise10First() {
+        AtlasDesk desk = new AtlasDesk();
+        put(desk, 1, 1, 4, 0, 128, 4095, 128);
+        region(desk, 256, 0, 1023, 255, 4);
+        Check.due("extract(0)", () -> desk.extract(0), 3);
+        for (int k = 0; k < 3; k++) {
+            int at = k;
+            Check.due("packed(" + k + ", 1)", () -> desk.packed(at, 1), k + 1);
+            Check.due("packed(" + k + ", 4)", () -> desk.packed(at, 4), 0);
+        }
+        Check.due("pack(1)", () -> desk.pack(1), 10);
+        Check.due("pack(2)", () -> desk.pack(2), 2);
     }
 
     private static void promise11() {
@@ -783,6 +853,7 @@ public final class PromiseTest {
         Check.due("pack(4)", () -> desk.pack(4), 4);
         Check.due("lookUp(0, 0): feature 2 as it was then", () -> desk.lookUp(0L, 0), 2);
         Check.due("take(4, 0, 0): feature 3 as it was then", () -> desk.take(4, 0, 0), 8);
+        dueSamePack("behind apply()", desk, new int[][] {{4, 0, 0, 8, 0}, {4, 0, 11, 16, 1}, {4, 15, 15, 8, 2}});
         Check.thrown("apply() again", STATE, desk::apply);
         desk.extract(0);
         Check.thrown("apply() to another edition's pack", STATE, desk::apply);
@@ -805,6 +876,84 @@ public final class PromiseTest {
         same.difference(2, 0);
         Check.due("apply() of a feature that is in no tile", same::apply, 3);
         Check.due("pack(3)", () -> same.pack(3), 0);
+    }
+
+    private static void dueSamePack(String when, AtlasDesk desk, int[][] due) {
+        for (int k = 0; k < due.length; k++) {
+            for (int what = 0; what < 5; what++) {
+                int at = k;
+                int w = what;
+                Check.due("packed(" + k + ", " + what + ") " + when, () -> desk.packed(at, w), due[k][what]);
+            }
+        }
+        Check.due("packed(" + due.length + ", 0) " + when, () -> desk.packed(due.length, 0), -1);
+    }
+
+    /** From one pack to another that has SHARED tiles, and nothing at its place in common with it. */
+    private static void promise15Shared() {
+        AtlasDesk desk = new AtlasDesk();
+        put(desk, 1, 0, 3, 4000, 4000);
+        desk.edition();
+        desk.drop(1);
+        put(desk, 2, 0, 4, 20, 300);
+        put(desk, 4, 0, 4, 276, 300);
+        put(desk, 3, 0, 4, 532, 44);
+        desk.edition();
+        // Point 2 and point 4 have other numbers; the line 2 is the same in two tiles.
+        put(desk, 2, 1, 4, 0, 300, 1023, 300);
+        desk.drop(4);
+        desk.edition();
+        region(desk, 0, 0, 4095, 4095, 4);
+        put(desk, 1, 0, 3, 4000, 4000);
+        desk.drop(2);
+        desk.drop(3);
+        Check.due("extract(0)", () -> desk.extract(0), 2);
+        Check.due("difference(0, 3)", () -> desk.difference(0, 3), 8);
+        Check.due("apply()", desk::apply, 6);
+        dueSamePack("of edition 3", desk, new int[][] {
+            {4, 0, 1, 9, 0}, {4, 1, 1, 9, 1}, {4, 2, 0, 6, 2}, {4, 2, 1, 9, 1}, {4, 3, 1, 9, 4}, {4, 4, 1, 8, 5}});
+        Check.due("pack(1)", () -> desk.pack(1), 9 + 9 + 6 + 9 + 8);
+        Check.due("pack(2)", () -> desk.pack(2), 1);
+        Check.due("pack(3)", () -> desk.pack(3), 3);
+        Check.due("pack(4)", () -> desk.pack(4), 2);
+        Check.due("take(4, 2, 1)", () -> desk.take(4, 2, 1), 9);
+        Check.due("the tile in hand", inHand(desk), "2 1 1 2 15 88 160 4 0");
+        Check.due("take(4, 15, 15)", () -> desk.take(4, 15, 15), 0);
+        Check.due("difference(3, 0)", () -> desk.difference(3, 0), 8);
+        Check.due("apply() back", desk::apply, 2);
+        dueSamePack("of edition 0", desk, new int[][] {{3, 7, 7, 8, 0}, {4, 15, 15, 8, 1}});
+        Check.due("pack(2)", () -> desk.pack(2), 0);
+    }
+
+    /** A pack of 100 tiles against one of 100 others: all 200 are told. */
+    private static void promise14Most() {
+        AtlasDesk desk = new AtlasDesk();
+        for (int i = 0; i < 6; i++) {
+            put(desk, i + 1, 1, 4, 0, 128 + 512 * i, 4095, 128 + 512 * i);
+            put(desk, i + 11, 0, 4, 128 + 512 * i, 3456);
+        }
+        desk.drop(15);
+        desk.drop(16);
+        desk.edition();
+        for (int number = 1; number < 17; number++) {
+            desk.drop(number);
+        }
+        for (int i = 0; i < 6; i++) {
+            put(desk, i + 1, 1, 4, 0, 384 + 512 * i, 4095, 384 + 512 * i);
+            put(desk, i + 11, 0, 4, 384 + 512 * i, 3456);
+        }
+        desk.drop(15);
+        desk.drop(16);
+        region(desk, 0, 0, 4095, 4095, 4);
+        Check.due("difference(1, 0)", () -> desk.difference(1, 0), 200);
+        int[] told = new int[3];
+        for (int k = 0; k < 200; k++) {
+            told[desk.differs(k, 0)]++;
+        }
+        Check.due("REMOVED", told[0], 100);
+        Check.due("ADDED", told[1], 100);
+        Check.due("differs(199, 1)", () -> desk.differs(199, 1), 4);
+        Check.due("differs(200, 0)", () -> desk.differs(200, 0), -1);
     }
 
     private static void promise15Refused() {
