@@ -4,14 +4,22 @@ import java.util.function.LongSupplier;
 final class Check {
     private static int wrong = 0;
     private static int made = 0;
+    private static int sentences = 0;
+    private static String sentence = "";
 
     private Check() {}
+
+    /** What follows tests this sentence of the document, which is told with each wrong answer. */
+    static void sentence(String words) {
+        sentences++;
+        sentence = "\"" + words + "\": ";
+    }
 
     static void due(String call, Object got, Object want) {
         made++;
         if (!want.equals(got)) {
             wrong++;
-            System.out.println(call + " answered " + got + ", due is " + want);
+            System.out.println(sentence + call + " answered " + got + ", due is " + want);
         }
     }
 
@@ -32,7 +40,10 @@ final class Check {
     }
 
     static void end() {
-        System.out.println(wrong == 0 ? made + " answers are as due" : wrong + " of " + made + " answers are not as due");
+        String of = sentences == 0 ? "" : " of " + sentences + " sentences";
+        System.out.println(wrong == 0
+                ? made + " answers" + of + " are as due"
+                : wrong + " of " + made + " answers are not as due");
         if (wrong != 0) {
             System.exit(1);
         }

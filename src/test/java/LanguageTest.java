@@ -6,9 +6,12 @@ import java.lang.reflect.Method;
 import java.lang.reflect.Modifier;
 import java.nio.file.Files;
 import java.nio.file.Path;
+import java.util.ArrayDeque;
 import java.util.ArrayList;
 import java.util.List;
+import java.util.Map;
 import java.util.Set;
+import java.util.TreeMap;
 import java.util.TreeSet;
 import java.util.regex.Matcher;
 import java.util.regex.Pattern;
@@ -34,9 +37,10 @@ public final class LanguageTest {
         "int near(int, int, int, int) [NoSuchElementException]",
     };
     private static final String[] RULED_OUT = {
-        "->", "::", "\\bsynchronized\\b", "\\bassert\\b", "\\bfinally\\b", "\\bprotected\\b", "Exact\\(",
+        "^(?!.*\\b(case|default)\\b).*->", "::", "\\bsynchronized\\b", "\\bassert\\b", "\\bfinally\\b", "\\bprotected\\b", "Exact\\(",
         "^package", "static \\{", "import (?!java\\.util\\.)", "\\bSystem\\.(?!arraycopy)",
-        "Math\\.(?!min|max|abs|floorDiv|floorMod)", "Arrays\\.(?!copyOf|fill)", "\\bRandom\\b", "\\bThread\\b",
+        "Math\\.(sqrt|pow|random|hypot|floor\\(|ceil|round|exp|log|sin|cos)", "Arrays\\.(?!copyOf|fill)", "\\bRandom\\b",
+        "\\bThread\\b",
     };
 
     private LanguageTest() {}
@@ -50,14 +54,22 @@ public final class LanguageTest {
     }
 
     private static void face() {
+        Map<String, String> thrown = new TreeMap<>();
+        for (String line : FACE) {
+            thrown.put(line.substring(0, line.indexOf(" [")), line.substring(line.indexOf(" [")));
+        }
         Set<String> face = new TreeSet<>();
         for (Method method : AtlasDesk.class.getDeclaredMethods()) {
             if (Modifier.isPublic(method.getModifiers())) {
-                face.add(method.getReturnType() + " " + method.getName() + "(" + names(method.getParameterTypes()) + ") ["
-                        + names(method.getExceptionTypes()) + "]");
+                String line = method.getReturnType() + " " + method.getName() + "(" + names(method.getParameterTypes()) + ")";
+                face.add(line);
+                for (Class<?> exception : method.getExceptionTypes()) {
+                    boolean told = thrown.getOrDefault(line, "").contains(exception.getSimpleName());
+                    Check.due(line + " may throw " + exception.getSimpleName(), told, true);
+                }
             }
         }
-        Check.due("the public methods", face, new TreeSet<>(List.of(FACE)));
+        Check.due("the public methods", face, thrown.keySet());
         Constructor<?>[] constructors = AtlasDesk.class.getDeclaredConstructors();
         Check.due("the constructors", constructors.length, 1);
         Check.due("the constructor's parameters", constructors[0].getParameterCount(), 0);
@@ -79,9 +91,9 @@ public final class LanguageTest {
         }
         for (Class<?> type : types()) {
             for (Method method : type.getDeclaredMethods()) {
-                boolean ofFace = type == AtlasDesk.class && Modifier.isPublic(method.getModifiers());
-                Check.due(type.getSimpleName() + "." + method.getName() + " with a name of the face",
-                        !ofFace && names.contains(method.getName()), false);
+                boolean hidden = Modifier.isPrivate(method.getModifiers());
+                Check.due(type.getSimpleName() + "." + method.getName() + " is private and has a name of the face",
+                        hidden && names.contains(method.getName()), false);
             }
             for (Field field : type.getDeclaredFields()) {
                 int is = field.getModifiers();
@@ -121,28 +133,37 @@ public final class LanguageTest {
             Matcher found = Pattern.compile(pattern, Pattern.MULTILINE).matcher(code);
             Check.due("what " + pattern + " finds", found.find() ? found.group() : "nothing", "nothing");
         }
-        Matcher thrown = Pattern.compile("throw (?!new (IllegalArgument|IllegalState|IndexOutOfBounds|NoSuchElement)"
-                + "(Exception)\\(\"\"\\);)").matcher(code);
+        Matcher thrown = Pattern.compile("\\bthrow\\b(?!\\s+new\\s+(IllegalArgument|IllegalState|IndexOutOfBounds|NoSuchElement"
+                + "|Arithmetic|UnsupportedOperation|Runtime)Exception\\s*\\((\"\")?\\))").matcher(code);
         Check.due("throws of another form", thrown.find(), false);
         methods(code);
     }
 
-    /** A method begins with a line that ends in ") {" or in a throws clause, four or eight in. */
+    /** A brace opens a class, or, right inside of one and behind a bracket, a method. */
     private static void methods(String code) {
-        String[] lines = code.split("\n");
-        int start = -1;
-        String close = "";
-        for (int i = 0; i < lines.length; i++) {
-            Matcher head = Pattern.compile("^( {4}| {8})\\w[^=;]*\\(.*").matcher(lines[i]);
-            if (start < 0 && head.matches()) {
-                start = i;
-                close = head.group(1) + "}";
+        ArrayDeque<String> open = new ArrayDeque<>();
+        ArrayDeque<Integer> starts = new ArrayDeque<>();
+        StringBuilder head = new StringBuilder();
+        int line = 1;
+        for (char c : code.toCharArray()) {
+            line += c == '\n' ? 1 : 0;
+            if (c == '{') {
+                boolean ofClass = "class".equals(open.peek());
+                boolean isClass = Pattern.compile("\\b(class|record|enum|interface)\\b").matcher(head).find();
+                open.push(isClass ? "class" : ofClass && head.indexOf("(") >= 0 ? head.toString().trim() : "block");
+                starts.push(line);
             }
-            if (start >= 0 && lines[i].equals(close)) {
-                Check.due(lines[start].trim() + " has at most 60 lines", i - start < 60, true);
-                start = -1;
+            if (c == '}') {
+                int lines = line - starts.pop();
+                String method = open.pop();
+                boolean tooLong = !method.equals("class") && lines > 60;
+                Check.due(method + " has at most 60 lines", tooLong, false);
+            }
+            head.append(c);
+            if (c == '{' || c == '}' || c == ';') {
+                head.setLength(0);
             }
         }
-        Check.due("every method was seen to end", start, -1);
+        Check.due("every brace is closed", open.isEmpty(), true);
     }
 }

@@ -1,9 +1,13 @@
 import java.util.Random;
+import java.util.TreeMap;
 import java.util.function.IntSupplier;
 
-/** Runs of calls by chance, always the same ones, on the program and on the model side by side. */
+/**
+ * Runs of calls by chance, always the same ones, on the program and on the model side by side, each
+ * of as many calls as an object is used for.
+ */
 public final class ModelTest {
-    private static final int RUNS = Integer.getInteger("runs", 400);
+    private static final int RUNS = Integer.getInteger("runs", 1200);
     private static final int[] WISHES = {
         0, 1, 15, 16, 31, 32, 120, 128, 248, 255, 256, 263, 264, 265, 272, 504, 512, 520, 528, 1016,
         1024, 2040, 2047, 2048, 2056, 2112, 4000, 4079, 4080, 4094, 4095
@@ -14,12 +18,11 @@ public final class ModelTest {
 
     private final int seed;
     private final Random random;
-    private final AtlasDesk desk = new AtlasDesk();
+    private final Desk desk = new Desk();
     private final Model model = new Model();
     private int closed = 0;
     private final int reach;
-    private static int most = 0;
-    private static final java.util.TreeMap<String, Integer> seen = new java.util.TreeMap<>();
+    private static final TreeMap<String, Integer> SEEN = new TreeMap<>();
 
     private ModelTest(int seed) {
         this.seed = seed;
@@ -32,7 +35,7 @@ public final class ModelTest {
             new ModelTest(seed).run();
         }
         if (Boolean.getBoolean("seen")) {
-            System.out.println(seen + ", bytes of a tile at most " + most);
+            System.out.println(SEEN);
         }
         System.out.println(RUNS + " runs answered as the model");
     }
@@ -44,17 +47,26 @@ public final class ModelTest {
         if (seed % 20 == 19) {
             crowd(1);
         }
-        for (int call = 0; call < 300; call++) {
+        if (seed % 3 > 0) {
+            for (int i = 0; i < 3 + pick(6); i++) {
+                feature();
+            }
+            region();
+        }
+        while (desk.callsLeft() > 0) {
             step();
         }
     }
 
     private void same(String call, IntSupplier got, IntSupplier due) {
+        if (desk.callsLeft() == 0) {
+            return;
+        }
         String a = answer(got);
         String b = answer(due);
         String name = call.substring(0, call.indexOf('('));
         String kind = b.startsWith("throws") ? b : b.equals("-1") ? "NONE" : b.equals("0") ? "0" : "n";
-        seen.merge(name + " " + kind, 1, Integer::sum);
+        SEEN.merge(name + " " + kind, 1, Integer::sum);
         if (!a.equals(b)) {
             System.out.println("run " + seed + ": " + call + " answered " + a + ", due is " + b);
             System.exit(1);
@@ -92,25 +104,22 @@ public final class ModelTest {
             int number = number();
             same("drop(" + number + ")", () -> desk.drop(number) ? 1 : 0, () -> model.drop(number) ? 1 : 0);
         } else if (chance < 39) {
-            same("edition()", desk::edition, model::edition);
-            closed++;
+            close();
         } else if (chance < 59) {
             tile();
         } else if (chance < 65) {
             region();
-        } else if (chance < 73) {
-            int edition = edition();
-            same("extract(" + edition + ")", () -> desk.extract(edition), () -> model.extract(edition));
+        } else if (chance < 71) {
+            extract(edition());
             pack();
-        } else if (chance < 79) {
-            int from = edition();
-            int to = edition();
-            same("difference(" + from + ", " + to + ")",
-                    () -> desk.difference(from, to), () -> model.difference(from, to));
-            difference();
-        } else if (chance < 84) {
+        } else if (chance < 75) {
+            difference(edition(), edition());
+            told();
+        } else if (chance < 77) {
             same("apply()", desk::apply, model::apply);
             pack();
+        } else if (chance < 84) {
+            bring();
         } else if (chance < 92) {
             names();
         } else {
@@ -135,7 +144,6 @@ public final class ModelTest {
                     () -> desk.feature(number, kind, 9, 0, 0L), () -> model.feature(number, kind, 9, 0, 0L));
         }
         same("tile(0, 4, 2, 2)", () -> desk.tile(0, 4, 2, 2), () -> model.tile(0, 4, 2, 2));
-        most = Math.max(most, model.tile(0, 4, 2, 2));
         octets();
     }
 
@@ -217,19 +225,25 @@ public final class ModelTest {
         octets();
     }
 
+    /** All of a few bytes, some of many. */
     private void octets() {
-        int i = -2;
-        int last;
-        do {
-            int at = i++;
-            same("octet(" + at + ")", () -> desk.octet(at), () -> model.octet(at));
-            last = model.octet(at);
-        } while (last != -1 || i < 2);
+        int size = 0;
+        while (model.octet(size) != -1) {
+            size++;
+        }
+        for (int i = -1; i <= size; i++) {
+            if (size < 16 || i == 0 || i >= size - 1 || pick(size) < 10) {
+                int at = i;
+                same("octet(" + at + ")", () -> desk.octet(at), () -> model.octet(at));
+            }
+        }
     }
 
     private void region() {
         int[] v = {coordinate(), coordinate(), coordinate(), coordinate()};
-        if (pick(20) > 0) {
+        if (pick(3) == 0) {
+            v = new int[] {0, 0, 4095, 4095};
+        } else if (pick(20) > 0) {
             v = new int[] {Math.min(v[0], v[2]), Math.min(v[1], v[3]), Math.max(v[0], v[2]), Math.max(v[1], v[3])};
         }
         int[] w = v;
@@ -244,21 +258,26 @@ public final class ModelTest {
     }
 
     private void pack() {
-        for (int what = -1; what < 6; what++) {
+        for (int what = pick(10) == 0 ? -1 : 0; what < 5 + pick(10) / 9; what++) {
             int w = what;
             same("pack(" + w + ")", () -> desk.pack(w), () -> model.pack(w));
         }
         int tiles = Math.max(0, model.pack(0));
-        for (int k = -1; k <= tiles; k++) {
-            for (int what = -1; what < 6; what++) {
-                int at = k;
-                int w = what;
-                same("packed(" + at + ", " + w + ")", () -> desk.packed(at, w), () -> model.packed(at, w));
-            }
+        for (int i = 0; i < Math.min(tiles + 1, 4); i++) {
+            packed(pick(20) == 0 ? pick(2) * (tiles + 1) - 1 : pick(tiles + 1));
         }
         int k = pick(tiles + 1);
         take(model.packed(k, 0), model.packed(k, 1), model.packed(k, 2));
-        take(pick(6), pick(16), pick(16));
+        if (pick(4) == 0) {
+            take(pick(6), pick(16), pick(16));
+        }
+    }
+
+    private void packed(int k) {
+        for (int what = pick(10) == 0 ? -1 : 0; what < 5 + pick(10) / 9; what++) {
+            int w = what;
+            same("packed(" + k + ", " + w + ")", () -> desk.packed(k, w), () -> model.packed(k, w));
+        }
     }
 
     private void take(int z, int tx, int ty) {
@@ -266,22 +285,64 @@ public final class ModelTest {
         octets();
     }
 
-    private void difference() {
-        int k = -2;
-        do {
-            k++;
-            for (int what = -1; what < 6; what++) {
-                int at = k;
+    private void extract(int edition) {
+        same("extract(" + edition + ")", () -> desk.extract(edition), () -> model.extract(edition));
+    }
+
+    private void difference(int from, int to) {
+        same("difference(" + from + ", " + to + ")",
+                () -> desk.difference(from, to), () -> model.difference(from, to));
+    }
+
+    private void close() {
+        same("edition()", desk::edition, model::edition);
+        closed++;
+    }
+
+    /** The calls that bring a pack over, mostly with nothing between them that would refuse it. */
+    private void bring() {
+        boolean news = pick(2) == 0;
+        if (news) {
+            close();
+            feature();
+        }
+        boolean back = pick(2) == 0;
+        int from = news ? (back ? 0 : closed) : edition();
+        int to = news ? (back ? closed : 0) : edition();
+        if (pick(2) == 0) {
+            extract(from);
+            difference(from, to);
+        } else {
+            difference(from, to);
+            extract(from);
+        }
+        if (pick(3) == 0) {
+            step();
+        }
+        same("apply()", desk::apply, model::apply);
+        pack();
+        names();
+        near();
+    }
+
+    private void told() {
+        int told = 0;
+        while (model.differs(told, 0) != -1) {
+            told++;
+        }
+        for (int i = 0; i < Math.min(told + 1, 5); i++) {
+            int k = pick(20) == 0 ? pick(2) * (told + 1) - 1 : pick(told + 1);
+            for (int what = pick(10) == 0 ? -1 : 0; what < 5 + pick(10) / 9; what++) {
                 int w = what;
-                same("differs(" + at + ", " + w + ")", () -> desk.differs(at, w), () -> model.differs(at, w));
+                same("differs(" + k + ", " + w + ")", () -> desk.differs(k, w), () -> model.differs(k, w));
             }
-        } while (k < 0 || model.differs(k, 0) != -1);
+        }
     }
 
     private void names() {
-        long word = word();
-        for (int k = -1; k < 26; k++) {
-            int at = k;
+        long word = pick(2) == 0 ? word() : word() >>> 8 * pick(8);
+        for (int i = 0; i < 3; i++) {
+            int at = pick(30) == 0 ? -1 : pick(pick(4) > 0 ? 3 : 25);
             same("lookUp(" + word + ", " + at + ")", () -> desk.lookUp(word, at), () -> model.lookUp(word, at));
         }
     }
@@ -290,9 +351,9 @@ public final class ModelTest {
         boolean far = pick(5) == 0;
         int x = far ? (pick(2) == 0 ? Integer.MIN_VALUE : Integer.MAX_VALUE) : coordinate();
         int y = far ? (pick(2) == 0 ? Integer.MIN_VALUE : Integer.MAX_VALUE) : coordinate();
-        int sort = pick(2) == 0 ? pick(2) : pick(12) - 1;
-        for (int k = -1; k < 26; k++) {
-            int at = k;
+        int sort = pick(4) > 0 ? pick(2) : pick(12) - 1;
+        for (int i = 0; i < 3; i++) {
+            int at = pick(30) == 0 ? -1 : pick(pick(4) > 0 ? 2 : 8);
             same("near(" + x + ", " + y + ", " + sort + ", " + at + ")",
                     () -> desk.near(x, y, sort, at), () -> model.near(x, y, sort, at));
         }

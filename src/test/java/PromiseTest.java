@@ -1,6 +1,4 @@
-import java.util.HashSet;
 import java.util.NoSuchElementException;
-import java.util.Set;
 
 /** Promise by promise, with answers that were reckoned by hand from the document. */
 public final class PromiseTest {
@@ -31,7 +29,6 @@ public final class PromiseTest {
         promise9();
         promise9Meeting();
         promise9Tiles();
-        promise9Bytes();
         promise9Shared();
         promise10();
         promise10First();
@@ -61,7 +58,7 @@ public final class PromiseTest {
         return answer ? 1 : 0;
     }
 
-    private static void corners(AtlasDesk desk, int... v) {
+    private static void corners(Desk desk, int... v) {
         for (int i = 0; i < v.length; i += 2) {
             if (!desk.corner(v[i], v[i + 1])) {
                 Check.due("corner(" + v[i] + ", " + v[i + 1] + ")", false, true);
@@ -69,25 +66,27 @@ public final class PromiseTest {
         }
     }
 
-    private static int put(AtlasDesk desk, int number, int kind, int least, int... v) {
+    private static int put(Desk desk, int number, int kind, int least, int... v) {
         corners(desk, v);
         return desk.feature(number, kind, 0, least, 0L);
     }
 
-    private static long region(AtlasDesk desk, int x0, int y0, int x1, int y1, int zoom) {
+    private static long region(Desk desk, int x0, int y0, int x1, int y1, int zoom) {
         desk.region(x0, y0, x1, y1, zoom);
         return 0;
     }
 
-    private static String inHand(AtlasDesk desk) {
+    private static String inHand(Desk desk) {
         StringBuilder text = new StringBuilder();
-        for (int i = 0; desk.octet(i) != AtlasDesk.NONE; i++) {
-            text.append(i == 0 ? "" : " ").append(desk.octet(i));
+        int octet = desk.octet(0);
+        for (int i = 1; octet != AtlasDesk.NONE; i++) {
+            text.append(i == 1 ? "" : " ").append(octet);
+            octet = desk.octet(i);
         }
         return text.toString();
     }
 
-    private static void dueTile(AtlasDesk desk, int edition, int z, int tx, int ty, String bytes) {
+    private static void dueTile(Desk desk, int edition, int z, int tx, int ty, String bytes) {
         String call = "tile(" + edition + ", " + z + ", " + tx + ", " + ty + ")";
         int size = bytes.isEmpty() ? 0 : bytes.split(" ").length;
         Check.due(call, () -> desk.tile(edition, z, tx, ty), size);
@@ -96,13 +95,13 @@ public final class PromiseTest {
 
     /** A tile of a new object with one feature, number 1 of class 0. */
     private static void dueAlone(int kind, int z, int tx, int ty, String bytes, int... v) {
-        AtlasDesk desk = new AtlasDesk();
+        Desk desk = new Desk();
         put(desk, 1, kind, 0, v);
         dueTile(desk, 0, z, tx, ty, bytes);
     }
 
     private static void dueFeature(boolean sound, int kind, int... v) {
-        AtlasDesk desk = new AtlasDesk();
+        Desk desk = new Desk();
         String call = "feature of kind " + kind + " with corners " + java.util.Arrays.toString(v);
         if (sound) {
             Check.due(call, () -> put(desk, 1, kind, 0, v), 1);
@@ -113,7 +112,7 @@ public final class PromiseTest {
     }
 
     private static void promise1() {
-        AtlasDesk desk = new AtlasDesk();
+        Desk desk = new Desk();
         Check.due("NONE", () -> AtlasDesk.NONE, -1);
         Check.due("octet(0) of a new object", () -> desk.octet(0), -1);
         Check.due("packed(0, 0) of a new object", () -> desk.packed(0, 0), -1);
@@ -136,7 +135,7 @@ public final class PromiseTest {
     }
 
     private static void promise2() {
-        AtlasDesk desk = new AtlasDesk();
+        Desk desk = new Desk();
         int[][] outside = {{-1, 0}, {0, -1}, {4096, 0}, {0, 4096},
             {Integer.MIN_VALUE, 5}, {5, Integer.MIN_VALUE}, {Integer.MAX_VALUE, 5}, {5, Integer.MAX_VALUE}};
         for (int[] v : outside) {
@@ -155,7 +154,7 @@ public final class PromiseTest {
     }
 
     private static void promise3() {
-        AtlasDesk desk = new AtlasDesk();
+        Desk desk = new Desk();
         int[][] wrong = {{0, 0, 0, 0}, {-5, 0, 0, 0}, {10000, 0, 0, 0}, {1, -1, 0, 0}, {1, 3, 0, 0},
             {1, 0, -1, 0}, {1, 0, 10, 0}, {1, 0, 0, -1}, {1, 0, 0, 5}};
         for (int[] v : wrong) {
@@ -187,7 +186,7 @@ public final class PromiseTest {
     }
 
     private static void promise3Names() {
-        AtlasDesk desk = new AtlasDesk();
+        Desk desk = new Desk();
         long[] wrong = {'A', 'a' - 1, 'z' + 1, 0x6100L, 0x610062L, 0x6100000000000000L, 1L, ' ', -1L,
             Long.MIN_VALUE, 0xE1L, word("abcdefgH"), word("Abcdefgh")};
         for (long name : wrong) {
@@ -253,7 +252,7 @@ public final class PromiseTest {
     }
 
     private static void promise4() {
-        AtlasDesk desk = new AtlasDesk();
+        Desk desk = new Desk();
         put(desk, 5, 0, 0, 5, 5);
         put(desk, 3, 0, 0, 3, 3);
         put(desk, 4, 0, 0, 4, 4);
@@ -271,7 +270,7 @@ public final class PromiseTest {
     }
 
     private static void promise5() {
-        AtlasDesk desk = new AtlasDesk();
+        Desk desk = new Desk();
         put(desk, 1, 0, 0, 1, 1);
         Check.due("edition()", desk::edition, 1);
         put(desk, 1, 0, 0, 2, 2);
@@ -296,7 +295,7 @@ public final class PromiseTest {
     }
 
     private static void promise6Steps() {
-        AtlasDesk desk = new AtlasDesk();
+        Desk desk = new Desk();
         put(desk, 1, 0, 2, 31, 16);
         dueTile(desk, 0, 1, 0, 0, "");
         dueTile(desk, 0, 2, 0, 0, "1 0 1 1 14 8");
@@ -400,7 +399,7 @@ public final class PromiseTest {
     }
 
     private static void promise6Written() {
-        AtlasDesk desk = new AtlasDesk();
+        Desk desk = new Desk();
         corners(desk, 64, 63);
         desk.feature(9999, 0, 9, 0, 0L);
         corners(desk, 300, 300, 10, 10, 11, 300);
@@ -416,7 +415,7 @@ public final class PromiseTest {
     }
 
     private static void promise6Wrong() {
-        AtlasDesk desk = new AtlasDesk();
+        Desk desk = new Desk();
         put(desk, 1, 0, 0, 0, 0);
         int[][] wrong = {{-1, 0, 0, 0}, {1, 0, 0, 0}, {0, -1, 0, 0}, {0, 5, 0, 0}, {0, 0, 1, 0}, {0, 0, 0, 1},
             {0, 2, -1, 0}, {0, 2, 0, -1}, {0, 2, 4, 0}, {0, 2, 0, 4}, {0, 32, 0, 0}, {0, 4, 16, 15}, {0, 4, 15, 16},
@@ -430,7 +429,7 @@ public final class PromiseTest {
     }
 
     private static void promise7() {
-        AtlasDesk desk = new AtlasDesk();
+        Desk desk = new Desk();
         put(desk, 200, 0, 0, 255, 64);
         desk.tile(0, 4, 0, 0);
         int[] due = {200, 1, 0, 1, 1, 254, 3, 128, 1};
@@ -450,7 +449,7 @@ public final class PromiseTest {
     }
 
     private static void promise8() {
-        AtlasDesk desk = new AtlasDesk();
+        Desk desk = new Desk();
         int[][] wrong = {{-1, 0, 5, 5, 0}, {0, -1, 5, 5, 0}, {0, 0, 4096, 5, 0}, {0, 0, 5, 4096, 0}, {6, 0, 5, 5, 0},
             {0, 6, 5, 5, 0}, {0, 0, 5, 5, -1}, {0, 0, 5, 5, 5}, {-2, 0, -1, 5, 0}, {4096, 0, 4097, 5, 0}};
         for (int[] v : wrong) {
@@ -473,7 +472,7 @@ public final class PromiseTest {
     }
 
     private static void promise9() {
-        AtlasDesk desk = new AtlasDesk();
+        Desk desk = new Desk();
         region(desk, 0, 0, 255, 255, 4);
         Check.due("extract(0) of nothing", () -> desk.extract(0), 0);
         put(desk, 1, 0, 0, 100, 100);
@@ -490,9 +489,9 @@ public final class PromiseTest {
         desk.edition();
         desk.edition();
         Check.thrown("extract(1), which is not kept", INDEX, () -> desk.extract(1));
-        Check.thrown("extract(9) without a region", INDEX, () -> new AtlasDesk().extract(9));
+        Check.thrown("extract(9) without a region", INDEX, () -> new Desk().extract(9));
         // A tile is the region's by its steps, not by its margin; then it has what the margin has.
-        AtlasDesk other = new AtlasDesk();
+        Desk other = new Desk();
         put(other, 1, 0, 4, 260, 100);
         region(other, 0, 0, 255, 255, 4);
         Check.due("extract(0) with a point in the margin", () -> other.extract(0), 1);
@@ -506,7 +505,7 @@ public final class PromiseTest {
     }
 
     private static void dueMeeting(boolean meets, int kind, int... v) {
-        AtlasDesk desk = new AtlasDesk();
+        Desk desk = new Desk();
         put(desk, 1, kind, 0, v);
         region(desk, 100, 200, 300, 250, 0);
         desk.extract(0);
@@ -563,7 +562,7 @@ public final class PromiseTest {
         dueMeeting(false, 1, 0, 1000, 124, 7);
         dueMeeting(true, 1, 0, 1000, 125, 0);
 
-        AtlasDesk desk = new AtlasDesk();
+        Desk desk = new Desk();
         put(desk, 1, 0, 3, 100, 200);
         region(desk, 100, 200, 100, 200, 2);
         desk.extract(0);
@@ -578,7 +577,7 @@ public final class PromiseTest {
     }
 
     private static void promise9Tiles() {
-        AtlasDesk desk = new AtlasDesk();
+        Desk desk = new Desk();
         region(desk, 0, 0, 4095, 4095, 4);
         for (int i = 0; i < 6; i++) {
             put(desk, i + 1, 1, 4, 0, 128 + 256 * i, 4095, 128 + 256 * i);
@@ -595,61 +594,9 @@ public final class PromiseTest {
         Check.due("extract(0) of a lesser region", () -> desk.extract(0), 100);
     }
 
-    /** The bytes of the different tiles of zoom 4, which are all that the features have. */
-    private static int bytes(AtlasDesk desk) {
-        Set<String> all = new HashSet<>();
-        int bytes = 0;
-        for (int at = 0; at < 256; at++) {
-            int size = desk.tile(0, 4, at % 16, at / 16);
-            bytes += all.add(inHand(desk)) ? size : 0;
-        }
-        return bytes;
-    }
-
-    /** A line alone in a tile of the lowest row that takes just so many bytes, of 10 to 53. */
-    private static void putAlone(AtlasDesk desk, int number, int tx, int size) {
-        int corners = (size - 2) / 4;
-        int spare = (size - 2) % 4;
-        int[] v = new int[2 * corners];
-        for (int i = 0; i < corners; i++) {
-            v[2 * i] = 256 * tx + (i % 2 == 0 ? 80 : 200);
-            v[2 * i + 1] = 3840 + new int[] {80, 150, 220, 150}[i % 4];
-        }
-        // A first coordinate below 64 takes one byte, a number above 127 takes two.
-        v[0] -= spare < 2 ? 20 : 0;
-        v[1] -= spare < 1 ? 20 : 0;
-        put(desk, spare == 3 ? number + 128 : number, 1, 4, v);
-    }
-
-    private static void promise9Bytes() {
-        AtlasDesk desk = new AtlasDesk();
-        region(desk, 0, 0, 4095, 4095, 4);
-        // Aslant along the border of two rows of tiles, so that each tile has other bytes.
-        for (int number = 1; number <= 15; number++) {
-            put(desk, number, 1, 4, 0, 248 + number % 5, 4095, 264 - number % 4);
-        }
-        int number = 20;
-        int left = 5000 - bytes(desk);
-        while (left > 63) {
-            putAlone(desk, number, number - 20, 53);
-            left -= 53;
-            number++;
-        }
-        putAlone(desk, number, number - 20, left);
-        Check.due("the bytes of all tiles", () -> bytes(desk), 5000);
-        desk.extract(0);
-        Check.due("pack(1)", () -> desk.pack(1), 5000);
-        desk.drop(number);
-        desk.drop(number + 128);
-        putAlone(desk, number, number - 20, left + 1);
-        Check.due("the bytes of all tiles", () -> bytes(desk), 5001);
-        Check.thrown("extract(0) of 5001 bytes", STATE, () -> desk.extract(0));
-        Check.due("pack(1) behind it", () -> desk.pack(1), 5000);
-    }
-
     /** Far more than 5000 bytes, of which only those of the first tile of each sort are stored. */
     private static void promise9Shared() {
-        AtlasDesk desk = new AtlasDesk();
+        Desk desk = new Desk();
         region(desk, 0, 0, 4095, 4095, 4);
         for (int number = 1; number <= 24; number++) {
             put(desk, number, 1, 4, 0, 250, 4095, 250);
@@ -658,8 +605,8 @@ public final class PromiseTest {
         Check.due("pack(2)", () -> desk.pack(2), 26);
     }
 
-    private static AtlasDesk wholeWorld() {
-        AtlasDesk desk = new AtlasDesk();
+    private static Desk wholeWorld() {
+        Desk desk = new Desk();
         put(desk, 1, 2, 0, 0, 0, 4095, 0, 4095, 4095, 0, 4095);
         region(desk, 0, 0, 4095, 4095, 2);
         desk.extract(0);
@@ -667,7 +614,7 @@ public final class PromiseTest {
     }
 
     private static void promise10() {
-        AtlasDesk desk = wholeWorld();
+        Desk desk = wholeWorld();
         // z, tx, ty and the first with the same bytes: corners, sides and the middle are shared.
         int[][] due = {{0, 0, 0, 0},
             {1, 0, 0, 1}, {1, 1, 0, 2}, {1, 0, 1, 3}, {1, 1, 1, 4},
@@ -692,7 +639,7 @@ public final class PromiseTest {
 
     /** The very first tile is like the next two. */
     private static void promise10First() {
-        AtlasDesk desk = new AtlasDesk();
+        Desk desk = new Desk();
         put(desk, 1, 1, 4, 0, 128, 4095, 128);
         region(desk, 256, 0, 1023, 255, 4);
         Check.due("extract(0)", () -> desk.extract(0), 3);
@@ -706,7 +653,7 @@ public final class PromiseTest {
     }
 
     private static void promise11() {
-        AtlasDesk desk = new AtlasDesk();
+        Desk desk = new Desk();
         put(desk, 1, 0, 0, 100, 100);
         desk.tile(0, 4, 0, 0);
         Check.due("take(4, 0, 0) without a pack", () -> desk.take(4, 0, 0), 0);
@@ -726,14 +673,14 @@ public final class PromiseTest {
             Check.due("take(" + java.util.Arrays.toString(v) + ")", () -> desk.take(v[0], v[1], v[2]), 0);
             Check.due("the tile in hand behind it", inHand(desk), "");
         }
-        AtlasDesk world = wholeWorld();
+        Desk world = wholeWorld();
         Check.due("take of a SHARED tile", () -> world.take(2, 2, 2), world.tile(0, 2, 1, 1));
         world.take(2, 2, 2);
         Check.due("the tile in hand", inHand(world), "1 2 1 4 144 4 15 0 160 4 159 4 0 0 159 4");
     }
 
     private static void promise12() {
-        AtlasDesk desk = wholeWorld();
+        Desk desk = wholeWorld();
         int stored = 0;
         for (int k = 0; k < 21; k++) {
             stored += desk.packed(k, 4) == k ? desk.packed(k, 3) : 0;
@@ -756,8 +703,8 @@ public final class PromiseTest {
     }
 
     /** Edition 1 has points 1 and 2, edition 2 has 2 and 3, and 4 in the tile of 2. */
-    private static AtlasDesk twoEditions() {
-        AtlasDesk desk = new AtlasDesk();
+    private static Desk twoEditions() {
+        Desk desk = new Desk();
         put(desk, 1, 0, 4, 3000, 100);
         put(desk, 2, 0, 4, 100, 3000);
         put(desk, 9, 0, 4, 4000, 4000);
@@ -771,7 +718,7 @@ public final class PromiseTest {
     }
 
     private static void promise13() {
-        AtlasDesk desk = twoEditions();
+        Desk desk = twoEditions();
         Check.due("difference(1, 2)", () -> desk.difference(1, 2), 3);
         Check.due("difference(2, 2)", () -> desk.difference(2, 2), 0);
         Check.due("difference(2, 0)", () -> desk.difference(2, 0), 0);
@@ -789,13 +736,13 @@ public final class PromiseTest {
         Check.due("difference(1, 2) below the least zoom", () -> desk.difference(1, 2), 0);
         desk.edition();
         Check.thrown("difference(1, 2), 1 being no more kept", INDEX, () -> desk.difference(1, 2));
-        AtlasDesk other = new AtlasDesk();
+        Desk other = new Desk();
         Check.thrown("difference(0, 0) without a region", STATE, () -> other.difference(0, 0));
         Check.thrown("difference(0, 1) without either", INDEX, () -> other.difference(0, 1));
     }
 
     private static void promise13Refused() {
-        AtlasDesk desk = twoEditions();
+        Desk desk = twoEditions();
         for (int i = 0; i < 7; i++) {
             put(desk, 20 + i, 1, 4, 0, 128 + 256 * i, 4095, 128 + 256 * i);
         }
@@ -810,7 +757,7 @@ public final class PromiseTest {
     }
 
     private static void promise14() {
-        AtlasDesk desk = twoEditions();
+        Desk desk = twoEditions();
         Check.due("differs(0, 0) without a difference", () -> desk.differs(0, 0), -1);
         desk.difference(1, 2);
         // In ORDER: (0, 0), (11, 0), (0, 11); the greater ty counts for more.
@@ -841,7 +788,7 @@ public final class PromiseTest {
     }
 
     private static void promise15() {
-        AtlasDesk desk = twoEditions();
+        Desk desk = twoEditions();
         desk.extract(1);
         desk.difference(1, 0);
         desk.drop(2);
@@ -863,7 +810,7 @@ public final class PromiseTest {
         desk.edition();
         Check.due("apply() with an edition that is no more kept", desk::apply, 3);
         Check.due("differs(0, 0): the difference stays", () -> desk.differs(0, 0), 1);
-        AtlasDesk same = new AtlasDesk();
+        Desk same = new Desk();
         put(same, 1, 0, 0, 100, 100);
         same.edition();
         same.edition();
@@ -878,7 +825,7 @@ public final class PromiseTest {
         Check.due("pack(3)", () -> same.pack(3), 0);
     }
 
-    private static void dueSamePack(String when, AtlasDesk desk, int[][] due) {
+    private static void dueSamePack(String when, Desk desk, int[][] due) {
         for (int k = 0; k < due.length; k++) {
             for (int what = 0; what < 5; what++) {
                 int at = k;
@@ -891,7 +838,7 @@ public final class PromiseTest {
 
     /** From one pack to another that has SHARED tiles, and nothing at its place in common with it. */
     private static void promise15Shared() {
-        AtlasDesk desk = new AtlasDesk();
+        Desk desk = new Desk();
         put(desk, 1, 0, 3, 4000, 4000);
         desk.edition();
         desk.drop(1);
@@ -927,7 +874,7 @@ public final class PromiseTest {
 
     /** A pack of 100 tiles against one of 100 others: all 200 are told. */
     private static void promise14Most() {
-        AtlasDesk desk = new AtlasDesk();
+        Desk desk = new Desk();
         for (int i = 0; i < 6; i++) {
             put(desk, i + 1, 1, 4, 0, 128 + 512 * i, 4095, 128 + 512 * i);
             put(desk, i + 11, 0, 4, 128 + 512 * i, 3456);
@@ -957,7 +904,7 @@ public final class PromiseTest {
     }
 
     private static void promise15Refused() {
-        AtlasDesk desk = twoEditions();
+        Desk desk = twoEditions();
         desk.difference(1, 2);
         Check.thrown("apply() without a pack", STATE, desk::apply);
         desk.extract(1);
@@ -973,7 +920,7 @@ public final class PromiseTest {
             desk.difference(1, 2);
             Check.thrown("apply() for the region " + java.util.Arrays.toString(v), STATE, desk::apply);
         }
-        AtlasDesk empty = new AtlasDesk();
+        Desk empty = new Desk();
         region(empty, 0, 0, 9, 9, 2);
         empty.extract(0);
         region(empty, 0, 0, 9, 9, 1);
@@ -984,12 +931,12 @@ public final class PromiseTest {
         Check.due("pack(3) behind a refused apply()", () -> desk.pack(3), 1);
     }
 
-    private static void named(AtlasDesk desk, int number, String name) {
+    private static void named(Desk desk, int number, String name) {
         corners(desk, number, number);
         desk.feature(number, 0, 0, 0, word(name));
     }
 
-    private static void dueNames(AtlasDesk desk, String start, int... numbers) {
+    private static void dueNames(Desk desk, String start, int... numbers) {
         for (int k = 0; k < numbers.length; k++) {
             int at = k;
             Check.due("lookUp(" + start + ", " + k + ")", () -> desk.lookUp(word(start), at), numbers[k]);
@@ -999,7 +946,7 @@ public final class PromiseTest {
     }
 
     private static void promise16() {
-        AtlasDesk desk = new AtlasDesk();
+        Desk desk = new Desk();
         named(desk, 20, "a");
         named(desk, 3, "b");
         named(desk, 4, "ab");
@@ -1036,12 +983,12 @@ public final class PromiseTest {
         dueNames(desk, "a", 1000, 4, 8, 17, 5, 10);
     }
 
-    private static void point(AtlasDesk desk, int number, int sort, int x, int y) {
+    private static void point(Desk desk, int number, int sort, int x, int y) {
         corners(desk, x, y);
         desk.feature(number, 0, sort, 0, 0L);
     }
 
-    private static void dueNear(AtlasDesk desk, int x, int y, int sort, int... numbers) {
+    private static void dueNear(Desk desk, int x, int y, int sort, int... numbers) {
         String call = "near(" + x + ", " + y + ", " + sort + ", ";
         for (int k = 0; k < numbers.length; k++) {
             int at = k;
@@ -1052,7 +999,7 @@ public final class PromiseTest {
     }
 
     private static void promise17() {
-        AtlasDesk desk = new AtlasDesk();
+        Desk desk = new Desk();
         point(desk, 1, 4, 100, 100);
         point(desk, 2, 4, 103, 104);
         point(desk, 3, 4, 105, 100);
