@@ -225,9 +225,16 @@ public final class DifferenceTest {
                 near(0, 0, 0, 0): 3
                 """);
         // Tiles SHARED, of another zoom, and in another place than before.
-        Script.run("put 1 0 3 at 4000 4000\nedition(): 1\ndrop(1): true\nput 2 1 4 at 0 300 1023 300")
+        Script script = Script.run("put 1 0 3 at 4000 4000\nedition(): 1\ndrop(1): true\nput 2 1 4 at 0 300 1023 300")
                 .then("region(0, 0, 4095, 4095, 4): done\nextract(1): 2\ndifference(1, 0): 7\napply(): 5\npack(2): 1")
-                .then("packed(1, 4): 1\npacked(2, 4): 1\npacked(3, 4): 3\npack(1): 35\npack(4): 1");
+                .then("pack(1): 35\npack(4): 1\npacked(5, 0): NONE");
+        int[][] due = {{4, 0, 1, 9, 0}, {4, 1, 1, 9, 1}, {4, 2, 1, 9, 1}, {4, 3, 1, 9, 3}, {4, 4, 1, 8, 4}};
+        for (int k = 0; k < due.length; k++) {
+            for (int what = 0; what < 5; what++) {
+                script.then("packed(" + k + ", " + what + "): " + due[k][what]);
+            }
+        }
+        script.then("take(4, 2, 1) has 2 1 1 2 15 88 160 4 0\ntake(3, 7, 7): 0\ntake(4, 15, 15): 0");
     }
 
     private static void asItWasThen() {
@@ -323,11 +330,11 @@ public final class DifferenceTest {
 
     private static void tilesThatAreNotThose() {
         Check.sentence("IllegalStateException: its tiles are not those that the difference's first edition had then");
-        // Fewer, more, the same ones with other bytes, as many in other places.
-        String[] others = {"drop(1): true", "put 2 0 4 at 300 300", "put 1 0 4 at 5 6", "put 1 0 4 at 300 5",
-            "corners 5 5\nfeature(1, 0, 1, 4, 0): 1"};
+        // Fewer, more, the same one with other bytes, one in another place with the same bytes.
+        String[] others = {"drop(1): true", "put 2 0 4 at 300 300", "put 1 0 4 at 100 101", "put 1 0 4 at 356 100",
+            "put 1 0 4 at 100 356", "corners 100 100\nfeature(1, 0, 1, 4, 0): 1"};
         for (String other : others) {
-            Script.run("put 1 0 4 at 5 5\nedition(): 1\n" + other + "\nregion(0, 0, 999, 999, 4): done\ndifference(1, 0)")
+            Script.run("put 1 0 4 at 100 100\nedition(): 1\n" + other + "\nregion(0, 0, 999, 999, 4): done\ndifference(1, 0)")
                     .then("extract(0)\napply(): IllegalState\npack(3): 0\nextract(1): 1\napply()\npack(3): 0")
                     .then("difference(0, 1)\napply(): 1\npack(3): 1\napply(): IllegalState\npack(3): 1");
         }

@@ -318,6 +318,8 @@ public final class PackTest {
                 packed(99, 3): 6
                 packed(99, 4): 99
                 take(4, 6, 8) has 43 0 1 1 100 100
+                take(4, 15, 15): 0
+                octet(0): NONE
                 packed(100, 0): NONE
                 difference(0, 0): 0
                 apply(): 100
@@ -344,6 +346,12 @@ public final class PackTest {
     private static void dueMeets(String region, boolean meets, int kind, String corners) {
         Script.run("put 1 " + kind + " 0 at " + corners + "\nregion(" + region + "): done\nextract(0)")
                 .then("pack(4): " + (meets ? 1 : 0) + "\nlookUp(0, 0): " + (meets ? "1" : "NoSuchElement"));
+    }
+
+    private static void dueMeetsBothWays(String region, boolean meets, String line) {
+        String[] v = line.split(" ");
+        dueMeets(region, meets, 1, line);
+        dueMeets(region, meets, 1, v[2] + " " + v[3] + " " + v[0] + " " + v[1]);
     }
 
     private static void leastZoomOfFeatures() {
@@ -387,9 +395,9 @@ public final class PackTest {
             {"90 210 110 190", "90 209 110 189"}, {"290 190 310 210", "291 190 311 210"},
             {"90 240 110 260", "89 240 109 260"}, {"310 240 290 260", "310 241 290 261"}};
         for (String[] v : meeting) {
-            dueMeets(region, true, 1, v[0]);
+            dueMeetsBothWays(region, true, v[0]);
             if (v[1] != null) {
-                dueMeets(region, false, 1, v[1]);
+                dueMeetsBothWays(region, false, v[1]);
             }
         }
         // A line has no edge from its last corner to the first, and nothing within.
@@ -428,6 +436,18 @@ public final class PackTest {
         dueMeets(region, false, 1, "0 1000 124 7");
         dueMeets(region, false, 1, "0 999 125 0");
         dueMeets(region, true, 1, "0 1001 125 0");
+        // Past each corner, and over it, by the least that whole numbers can.
+        int[][] corners = {{100, 200, 1, 1}, {300, 200, -1, 1}, {100, 250, 1, -1}, {300, 250, -1, -1}};
+        for (int[] c : corners) {
+            String from = (c[0] - c[2]) + " " + (c[1] + c[3]) + " ";
+            dueMeetsBothWays(region, false, from + (c[0] + c[2]) + " " + (c[1] - 2 * c[3]));
+            dueMeetsBothWays(region, true, from + (c[0] + 2 * c[2]) + " " + (c[1] - c[3]));
+        }
+        // A number that is within an area, or not, by the least.
+        dueMeets("1, 1, 1, 1, 0", true, 2, "0 0 3 2 0 9");
+        dueMeets("1, 1, 1, 1, 0", true, 2, "0 9 3 2 0 0");
+        dueMeets("1, 1, 1, 1, 0", false, 2, "0 0 3 2 9 0");
+        dueMeets("1, 1, 1, 1, 0", false, 2, "9 0 3 2 0 0");
         // Through one number, and past it by a hair.
         dueMeets("2047, 2047, 2047, 2047, 0", true, 1, "0 0 4094 4094");
         dueMeets("2047, 2047, 2047, 2047, 0", false, 1, "0 0 4095 4094");
@@ -578,6 +598,10 @@ public final class PackTest {
                     .then("take(" + tile + "): 0\noctet(0): NONE\ntake(1, 0, 0) has 1 0 1 1 0 0")
                     .then("take(" + tile + "): 0\noctet(0): NONE");
         }
+        // A tile that a pack before had.
+        Script.run(inHand + "region(0, 0, 9, 9, 4): done\nextract(0): 5\nextract(0): 5")
+                .then("region(0, 0, 9, 9, 3): done\nextract(0): 4\ntake(4, 0, 0): 0\nextract(0): 4")
+                .then("take(4, 0, 0): 0\ntake(3, 0, 0): 6\npacked(4, 0): NONE");
         // A tile that the edition has, but not the region.
         Script.run(inHand + "region(4000, 4000, 4001, 4001, 4): done\nextract(0): 1\ntake(4, 0, 0): 0\noctet(0): NONE")
                 .then("take(0, 0, 0) has 1 0 1 1 0 0");

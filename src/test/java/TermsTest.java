@@ -284,11 +284,16 @@ public final class TermsTest {
         // Straight on through a corner.
         ring(true, 0, 0, 5, 0, 9, 0, 9, 9);
         ring(true, 0, 0, 5, 5, 9, 9, 0, 9);
+        ring(true, 0, 0, 5, 0, 20, 0, 20, 20);
+        ring(true, 0, 0, 5, 5, 20, 20, 0, 20);
         // Two edges on one line, apart; a corner one step beside an edge; two parts one step apart.
         ring(true, 0, 0, 4, 0, 4, 4, 6, 4, 6, 0, 10, 0, 10, 9, 0, 9);
         ring(true, 0, 0, 10, 0, 10, 10, 5, 1, 0, 10);
         ring(true, 0, 0, 20, 0, 20, 9, 1, 9, 1, 10, 20, 10, 20, 20, 0, 20);
         ring(true, 0, 0, 8, 0, 8, 8, 2, 8, 2, 4, 4, 4, 4, 6, 6, 6, 6, 2, 0, 2);
+        // A corner that is beside an edge by the least that whole numbers can: (1, 1) and 3 y = 2 x.
+        ring(true, 0, 0, 3, 2, 9, 9, 1, 1, 0, 9);
+        ring(true, 0, 0, 4095, 4094, 4095, 4095, 2, 2, 0, 4095);
         // Twelve corners, a comb.
         ring(true, 0, 0, 9, 0, 1, 1, 9, 2, 1, 3, 9, 4, 1, 5, 9, 6, 1, 7, 9, 8, 1, 9, 0, 9);
     }
@@ -297,6 +302,7 @@ public final class TermsTest {
         Check.sentence("no two of its edges have a point in common");
         ring(false, 0, 0, 9, 9, 9, 0, 0, 9);
         ring(false, 0, 0, 4095, 4095, 4095, 0, 0, 4095);
+        ring(false, 0, 0, 3, 2, 1, 1, 2, 0);
         // A corner on an edge: upright, aslant; and on the end of an edge, which is a corner.
         ring(false, 0, 0, 10, 0, 10, 10, 5, 0, 0, 10);
         ring(false, 0, 0, 20, 40, 12, 40, 10, 20, 0, 40);
@@ -368,14 +374,15 @@ public final class TermsTest {
     private static void editionNumbers() {
         Check.sentence("those that were closed have numbers 1, 2, ..");
         Script script = new Script();
-        for (int number = 1; number <= 500; number++) {
+        for (int number = 1; number <= 508; number++) {
             script.then("edition(): " + number);
         }
+        // The last of these is the 512th call, of which an answer is due still.
         script.then("""
-                tile(500, 0, 0, 0): 0
-                tile(499, 0, 0, 0): 0
-                tile(498, 0, 0, 0): IndexOutOfBounds
-                tile(501, 0, 0, 0): IndexOutOfBounds
+                tile(508, 0, 0, 0): 0
+                tile(506, 0, 0, 0): IndexOutOfBounds
+                tile(509, 0, 0, 0): IndexOutOfBounds
+                tile(507, 0, 0, 0): 0
                 """);
     }
 

@@ -34,6 +34,7 @@ public final class TileTest {
         numberLessThatBefore();
         kindAndClass();
         howManyPieces();
+        fullTile();
         howManyCorners();
         differences();
         toTheCornerBefore();
@@ -91,6 +92,12 @@ public final class TileTest {
         // Between the last one that stays and the first: one step away, two steps away.
         alone(AREA, "0 0 40 0 40 40 0 40 1 20", 4, 0, 0, "1 2 1 4 0 0 80 0 0 80 79 0");
         alone(AREA, "0 0 40 0 40 40 0 40 2 20", 4, 0, 0, "1 2 1 5 0 0 80 0 0 80 79 0 4 39");
+        // The same as the last of twelve corners.
+        String eleven = "0 0 20 10 40 0 60 10 80 0 100 10 120 0 120 60 80 50 40 60 0 60";
+        String bytes = " 0 0 40 20 40 19 40 20 40 19 40 20 40 19 0 120 79 19 79 20 79 0";
+        alone(AREA, eleven, 4, 0, 0, "1 2 1 11" + bytes);
+        alone(AREA, eleven + " 1 30", 4, 0, 0, "1 2 1 11" + bytes);
+        alone(AREA, eleven + " 2 30", 4, 0, 0, "1 2 1 12" + bytes + " 4 59");
     }
 
     private static void farEnough() {
@@ -271,6 +278,11 @@ public final class TileTest {
         inTile("300 249 300 200", "1 1 1 2 88 13 0 1");
         inTile("300 520 300 600", "nothing");
         inTile("300 519 300 600", "1 1 1 2 88 142 4 0 2");
+        // One step long, from outside to the border: the corner that is put is where its end is.
+        for (String corners : new String[] {"247 300 248 310", "521 300 520 310", "300 247 310 248", "300 521 310 520",
+            "248 310 247 300", "520 310 521 300", "310 248 300 247", "310 520 300 521"}) {
+            inTile(corners, "nothing");
+        }
         inTile("520 300 520 400", "1 1 1 2 144 4 88 0 200 1");
         inTile("248 300 248 400", "1 1 1 2 15 88 0 200 1");
         inTile("300 248 400 248", "1 1 1 2 88 15 200 1 0");
@@ -451,18 +463,46 @@ public final class TileTest {
 
     private static void howManyPieces() {
         Check.sentence("a COUNT: how many pieces; for each a COUNT: how many corners");
-        // To and fro over the whole tile: each of eleven edges is a piece.
+        inTile(toAndFro(), bytesToAndFro());
+    }
+
+    /** Over the whole tile and back, so that each of eleven edges is a piece. */
+    private static String toAndFro() {
         StringBuilder corners = new StringBuilder();
-        StringBuilder bytes = new StringBuilder("1 1 11");
         for (int i = 0; i < 12; i++) {
             corners.append(i % 2 == 0 ? " 184" : " 584").append(" ").append(300 + 10 * i);
         }
-        // The first edge: 301.6 is 302 on the left border; on the right one 302 + 8 * 272 / 336 is 308.
-        // The next: 318.4 is 318 on the left border; on the right one 310 + 8 * 64 / 336 is 312.
+        return corners.substring(1);
+    }
+
+    /**
+     * The first edge: 301.6 is 302 on the left border; on the right one 302 + 8 * 272 / 336 is 308.
+     * The next: 318.4 is 318 on the left border; on the right one 310 + 8 * 64 / 336 is 312.
+     */
+    private static String bytesToAndFro() {
+        StringBuilder bytes = new StringBuilder("1 1 11");
         for (int i = 0; i < 11; i++) {
             bytes.append(i == 0 ? " 2 15 92" : " 2 0 8").append(i % 2 == 0 ? " 160 4" : " 159 4").append(" 12");
         }
-        inTile(corners.substring(1), bytes.toString());
+        return bytes.toString();
+    }
+
+    private static void fullTile() {
+        Check.sentence("a tile of 24 features, each of 12 corners and 11 pieces");
+        StringBuilder lines = new StringBuilder();
+        StringBuilder all = new StringBuilder();
+        for (int number = 1; number <= 24; number++) {
+            lines.append("put ").append(number).append(" 1 0 at ").append(toAndFro()).append("\n");
+            all.append(bytesToAndFro()).append(" ");
+        }
+        String[] bytes = all.toString().split(" ");
+        // One object answers for a part of the bytes, since it has but 512 calls.
+        for (int from = 0; from <= bytes.length; from += 150) {
+            Script script = Script.run(lines + "tile(0, 4, 1, 1): " + bytes.length);
+            for (int i = from; i < from + 150; i++) {
+                script.then("octet(" + i + "): " + (i < bytes.length ? bytes[i] : "NONE"));
+            }
+        }
     }
 
     private static void howManyCorners() {
