@@ -9,8 +9,8 @@ import java.util.TreeSet;
  * more: they answer alike, but for what the document says that this call changes.
  */
 public final class RefusedTest {
-    /** Two corners told, a tile in hand, editions 2 and 3 kept, a pack of 2, the difference to 3. */
-    private static final String STATE = """
+    /** A tile in hand, editions 2 and 3 kept, a pack of 2, the difference to 3; no corners told. */
+    private static final String BEFORE = """
             region(0, 0, 2047, 2047, 3): done
             put 1 0 0 at 100 100
             edition(): 1
@@ -27,8 +27,9 @@ public final class RefusedTest {
             tile(2, 3, 0, 0): 20
             extract(2): 6
             difference(2, 3): 7
-            corners 20 20 220 20
             """;
+    private static final String CORNERS = "corners 20 20 220 20\n";
+    private static final String STATE = BEFORE + CORNERS;
     private static final String[] WRONG_FEATURES = {"0, 1, 0, 0, 0", "10000, 1, 0, 0, 0", "MIN, 1, 0, 0, 0", "7, -1, 0, 0, 0",
         "7, 3, 0, 0, 0", "7, 1, -1, 0, 0", "7, 1, 10, 0, 0", "7, 1, 0, -1, 0", "7, 1, 0, 5, 0", "7, 1, 0, 0, 1",
         "7, 1, 0, 0, LEAST", "7, 0, 0, 0, 0", "7, 2, 0, 0, 0", "6, 0, 0, 0, 0", "6, 1, 0, MAX, 0"};
@@ -163,16 +164,16 @@ public final class RefusedTest {
         for (String arguments : WRONG_FEATURES) {
             String call = "feature(" + arguments + "): IllegalArgument";
             changes(STATE, call, "corners");
-            String without = STATE.substring(0, STATE.lastIndexOf("corners"));
             Check.due("what is told apart from a state without corners behind " + call,
-                    toldApart(without, STATE + call + "\n"), Set.of());
+                    toldApart(BEFORE, STATE + call + "\n"), Set.of());
         }
-        String full = STATE.substring(0, STATE.lastIndexOf("corners"));
+        StringBuilder full = new StringBuilder(BEFORE);
         for (int number = 10; number < 29; number++) {
-            full += "put " + number + " 0 0 at " + number + " 0\n";
+            full.append("put ").append(number).append(" 0 0 at ").append(number).append(" 0\n");
         }
         String call = "feature(29, 1, 0, 0, 0): IllegalState";
-        Check.due("what is told apart behind " + call, toldApart(full, full + "corners 20 20 220 20\n" + call + "\n"), Set.of());
+        Check.due("what is told apart from a state without corners behind " + call,
+                toldApart(full.toString(), full + CORNERS + call + "\n"), Set.of());
     }
 
     private static void refusedByTheState() {
@@ -192,20 +193,18 @@ public final class RefusedTest {
         changes(STATE + "apply()\n", "apply(): IllegalState");
         changes(STATE + "region(0, 0, 2047, 2046, 3): done\ndifference(2, 3)\n", "apply(): IllegalState");
         Check.sentence("nothing is changed then: a pack is refused by its tiles, or by its bytes");
-        String whole = STATE + "region(0, 0, 4095, 4095, 4): done\nextract(2)\ndifference(2, 3)\n";
-        String area = whole.replace("corners 20 20 220 20\n", "") + "put 6 2 0 at 0 0 4095 0 4095 4095 0 4095\ncorners 20 20 220 20\n";
-        changes(area, "extract(0): IllegalState");
-        changes(area, "difference(0, 2): IllegalState");
-        changes(area, "difference(2, 0): IllegalState");
-        changes(area, "difference(0, 0): IllegalState");
-        String bytes = whole.replace("corners 20 20 220 20\n", "");
+        String whole = BEFORE + "region(0, 0, 4095, 4095, 4): done\nextract(2)\ndifference(2, 3)\n";
+        StringBuilder manyBytes = new StringBuilder(whole);
         for (int n = 10; n < 28; n++) {
-            bytes += "put " + n + " 1 4 at 0 " + (230 + n) + " 4095 " + (280 - n) + "\n";
+            manyBytes.append("put ").append(n).append(" 1 4 at 0 ").append(230 + n).append(" 4095 ").append(280 - n).append("\n");
         }
-        bytes += "corners 20 20 220 20\n";
-        changes(bytes, "extract(0): IllegalState");
-        changes(bytes, "difference(0, 2): IllegalState");
-        changes(bytes, "difference(2, 0): IllegalState");
+        String manyTiles = whole + "put 6 2 0 at 0 0 4095 0 4095 4095 0 4095\n";
+        for (String state : new String[] {manyBytes + CORNERS, manyTiles + CORNERS}) {
+            changes(state, "extract(0): IllegalState");
+            changes(state, "difference(0, 2): IllegalState");
+            changes(state, "difference(2, 0): IllegalState");
+            changes(state, "difference(0, 0): IllegalState");
+        }
     }
 
     private static void askingChangesNothing() {
